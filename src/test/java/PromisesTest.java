@@ -566,6 +566,14 @@ public final class PromisesTest {
     x.seller(0, 10, 2, 0, 0);
     x.seller(0, 10, 0, 1, 0);
     C.due("no row at rest", x.stage(0, 1, 0, 1, 0), NONE);
+    x = with("corner a people 6;corner b people 4 like rye 2;street a b 12;step 5;ask 1 5;home 3;");
+    x.seller(0, 1, 0, 0, 2);
+    x.seller(0, 1, 2, 1, 2);
+    C.due("y where rye is liked", x.stage(0, 1, 0, 1, 0), 1);
+    C.due("x asks what HOME lets", x.stage(0, 1, 0, 1, 1), 3);
+    C.due("y asks what they like it more", x.stage(0, 1, 0, 1, 2), 5);
+    C.due("the first row at rest, though y's rye is liked elsewhere", x.stage(1, 0, 0, 1, 0), 1);
+    C.due("rye where nobody likes it", x.stage(1, 0, 0, 1, 1), 3);
   }
 
   private static void walk() {
@@ -733,5 +741,13 @@ public final class PromisesTest {
     C.due("rests by a law", x.rests(0, 1, NONE, NONE), 0);
     x.force(NONE);
     C.due("rests without it", x.rests(0, 1, NONE, NONE) == 0, false);
+    x = with(PAIR);
+    x.seller(0, 10, 0, 0, 0);
+    x.seller(0, 10, 0, 1, 0);
+    Check.law(x, "apart 1;");
+    C.due("rests ahead of bestLaw", x.rests(0, 1, NONE, NONE), 1);
+    C.due("bestLaw by another law", x.bestLaw(0, 1, 2), 2);
+    C.due("rests again without the law", x.rests(0, 1, NONE, NONE), 1);
+    C.due("sold without the law", x.sold(0), 168);
   }
 }

@@ -49,9 +49,11 @@ public final class EdgesOfGamesTest {
     stageOfEachRow();
     stageIfLet();
     stageWithoutPrices();
+    stageOfFirstPrices();
     stageByALaw();
     stageNoneSuch();
     gamesLeaveAllAsItWas();
+    gamesAreNotMixedUp();
     C.end();
   }
 
@@ -284,6 +286,11 @@ public final class EdgesOfGamesTest {
       C.due("b, a: " + what, x.lots(0, 1, 1, 0, what), turned[what]);
       C.due("y, x: " + what, x.lots(1, 0, 0, 1, what), turned[what]);
     }
+    x = two("corner a people 1;corner b people 3 like rye 3;street a b 4;home 12;", 2, 1);
+    long[] unlike = {2, 7, 4, 5};
+    for (int what = 0; what < 4; what++) {
+      C.due("of unlike sums: " + what, x.lots(0, 1, 0, 1, what), unlike[what]);
+    }
   }
 
   /** "in lowest terms, Q above 0" */
@@ -302,15 +309,15 @@ public final class EdgesOfGamesTest {
 
   /** "if (..) none is a rest of these four" */
   private static void lotsIfNoneIsARest() {
-    TwoBakers x = two(PAIR, 0, 0);
-    C.due("aa is one", x.lots(0, 1, 0, 1, 0), NONE);
-    C.due("bb is one", x.lots(0, 1, 1, 0, 0), NONE);
-    x = two(LIKED, 2, 1);
-    C.due("ab is one", x.lots(0, 1, 0, 1, 0), NONE);
-    C.due("ba is one", x.lots(0, 1, 1, 0, 0), NONE);
-    C.due("ba is one: Q", x.lots(0, 1, 1, 0, 1), NONE);
-    C.due("ba is one: y's", x.lots(0, 1, 1, 0, 2), NONE);
-    x = two(CAT + "corner c people 99;", 2, 0);
+    TwoBakers pair = two(PAIR, 0, 0);
+    TwoBakers liked = two(LIKED, 2, 1);
+    for (int what = 0; what < 4; what++) {
+      C.due("aa is one: " + what, pair.lots(0, 1, 0, 1, what), NONE);
+      C.due("bb is one: " + what, pair.lots(0, 1, 1, 0, what), NONE);
+      C.due("ab is one: " + what, liked.lots(0, 1, 0, 1, what), NONE);
+      C.due("ba is one: " + what, liked.lots(0, 1, 1, 0, what), NONE);
+    }
+    TwoBakers x = two(CAT + "corner c people 99;", 2, 0);
     C.due("of these four, though there's one elsewhere", x.lots(0, 1, 0, 1, 1), 3);
     C.due("elsewhere", x.lots(0, 1, 0, 2, 1), NONE);
   }
@@ -561,6 +568,24 @@ public final class EdgesOfGamesTest {
     C.due("no row", x.stage(0, 1, 0, 1, 0), NONE);
   }
 
+  /** "what both EARN at its first PRICES at rest" */
+  private static void stageOfFirstPrices() {
+    TwoBakers x = two("corner a people 6;corner b people 1;ask 0 3;", 0, 0);
+    C.due("on one corner they give it away, so y goes", x.stage(0, 1, 0, 1, 0), 1);
+    C.due("x's price alone", x.stage(0, 1, 0, 1, 1), 3);
+    C.due("y's price alone", x.stage(0, 1, 0, 1, 2), 3);
+    x = two("corner a people 6;corner b people 1 like rye 3;ask 0 3;", 2, 0);
+    x.seller(1, 0, 0, 3, 2);
+    C.due("x would go for a little", x.stage(0, 1, 0, 1, 0), 1);
+    C.due("x has a alone", x.stage(0, 1, 0, 1, 1), 3);
+    C.due("y sells nothing for nothing", x.stage(0, 1, 0, 1, 2), 0);
+    x = two("corner a people 6;corner b people 2;ask 40 60;", 0, 0);
+    C.due("the most: row", x.stage(0, 1, 0, 1, 0), 0);
+    x.seller(0, 40, 0, 3, 2);
+    C.due("the most: x's", x.stage(0, 1, 1, 0, 1), 60);
+    C.due("the most: y's", x.stage(0, 1, 1, 0, 2), 40);
+  }
+
   /** By a LAW's "price" that alone. */
   private static void stageByALaw() {
     TwoBakers x = two("corner a people 6;corner b people 4;street a b 12;step 5;ask 1 3;home 3;", 0, 0);
@@ -605,6 +630,44 @@ public final class EdgesOfGamesTest {
     for (int i = 0; i < 6; i++) {
       C.due("of " + i, x.of(i / 2, i % 2), now[i]);
     }
+  }
+
+  /** What was asked of some SELLERS isn't told of others. */
+  private static void gamesAreNotMixedUp() {
+    int[][] rows = {{0, 1, NONE}, {1, 0, NONE}, {0, 2, NONE}, {2, 1, NONE}, {3, 1, NONE}, {0, 3, NONE}, {0, 1, 2}, {0, 1, 3}, {1, 0, 2},
+      {0, 2, 1}, {3, 2, 1}, {2, 1, 3}};
+    for (int[] before : rows) {
+      TwoBakers x = fourUnlike();
+      for (int[] row : rows) {
+        TwoBakers fresh = fourUnlike();
+        x.rests(before[0], before[1], before[2], NONE);
+        C.due("rests", mixed(x, row), mixed(fresh, row));
+        x.prices(before[0], before[1], NONE);
+        C.due("prices", x.prices(row[0], row[1], 0), fresh.prices(row[0], row[1], 0));
+        x.bestLaw(before[0], before[1], 1);
+        C.due("bestLaw", x.bestLaw(row[0], row[1], 1), fresh.bestLaw(row[0], row[1], 1));
+      }
+    }
+  }
+
+  private static long mixed(TwoBakers x, int[] row) {
+    int many = x.rests(row[0], row[1], row[2], NONE);
+    long sum = many;
+    for (int k = 0; k < many && k < 5; k++) {
+      sum = 5000 * sum + x.rests(row[0], row[1], row[2], k);
+    }
+    return sum;
+  }
+
+  private static TwoBakers fourUnlike() {
+    TwoBakers x = in("corner a people 9 like rye 4;corner b people 5 like brown 3;corner c people 7 like white 5;street a b 2 people 1;"
+        + "street b c 3;street c a 4 people 2;ask 4 8;home 13;");
+    x.seller(0, 4, 0, 0, 0);
+    x.seller(101, 6, 1, 1, 1);
+    x.seller(2, 7, 2, 2, 2);
+    x.seller(121, 8, 2, 0, 0);
+    Check.law(x, "apart 2;");
+    return x;
   }
 
   private static long[] asked(TwoBakers x) {

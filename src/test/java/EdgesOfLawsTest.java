@@ -49,6 +49,7 @@ public final class EdgesOfLawsTest {
     imagesGoneSince();
     backNoneSuch();
     countsOfAll();
+    fullTown();
     countNoneSuch();
     nothingIsOld();
     C.end();
@@ -116,6 +117,12 @@ public final class EdgesOfLawsTest {
     C.due("along a street they can", x.walk(0, 1), 16);
     x = in("corner a;corner b;corner c;street b c 2;");
     C.due("nobody along it", x.walk(0, NONE), 0);
+    x = in("corner a people 1;corner b;corner c;street b c 2 people 1;");
+    C.due("one can't, though others along a street can", x.walk(1, NONE), NONE);
+    x = in("corner a;corner b;corner c;corner d;street a b 2 people 1;street c d 2 people 1;");
+    C.due("those of the first street can't", x.walk(2, NONE), NONE);
+    C.due("those of the last street can't", x.walk(0, NONE), NONE);
+    C.due("all can", x.walk(2, 0), 32);
   }
 
   /** "(at corners, along streets that aren't shut)" */
@@ -182,6 +189,10 @@ public final class EdgesOfLawsTest {
     C.due("two by the law", x.own(2, 0), 24);
     C.due("two by the law: first", x.own(2, 1), 0);
     C.due("two by the law: second", x.own(2, 2), 1);
+    x.force(NONE);
+    for (int what = 0; what < 3; what++) {
+      C.due("none again: " + what, x.own(2, what), NONE);
+    }
     forceLaw(x, "open a c 3;open b c 2;");
     C.due("one by a law that joins all", x.own(1, 1), 2);
     C.due("its walk", x.own(1, 0), 40);
@@ -235,7 +246,9 @@ public final class EdgesOfLawsTest {
 
   /** "-1,000,000,000,000: no SELLERS, none." */
   private static void lossNone() {
-    TwoBakers x = in("corner a people 1;corner b people 1;corner c;street a c 4;");
+    TwoBakers x = in("corner a;corner b;");
+    C.due("no sellers, no people", x.loss(), NOTHING);
+    x = in("corner a people 1;corner b people 1;corner c;street a c 4;");
     C.due("no sellers", x.loss(), NOTHING);
     x.seller(0, 10, 0, 0, 2);
     C.due("somebody can't come", x.loss(), NOTHING);
@@ -381,9 +394,22 @@ public final class EdgesOfLawsTest {
     C.due("its rests", x.bestLaw(0, 1, 2), 2);
     for (int law = NONE; law < 4; law++) {
       x.force(law);
+      C.due("rests ahead of it: " + law, x.rests(0, 1, NONE, NONE), law < 2 ? 1 : 2);
       C.due("whichever is in force: " + law, x.bestLaw(0, 1, 0), 2);
       C.due("it stays in force: " + law, x.count(3), law);
+      C.due("its rests stay: " + law, x.rests(0, 1, NONE, NONE), law < 2 ? 1 : 2);
     }
+    TwoBakers y = two(PAIR, 0, 0);
+    forceLaw(y, "shut a b;");
+    Check.law(y, "apart 1;");
+    C.due("rests ahead of it", y.rests(0, 1, NONE, NONE), 2);
+    C.due("it is the first of the best", y.bestLaw(0, 1, 0), 0);
+    C.due("its way stays shut", y.far(0, 1), NONE);
+    C.due("who sells by it", y.sold(0), 9 * 12);
+    C.due("rests behind it", y.rests(0, 1, NONE, 0), 16);
+    y.put(0, 1, 10);
+    C.due("asked behind a change", y.bestLaw(0, 1, 0), 0);
+    C.due("its way is still shut", y.walk(0, NONE), NONE);
   }
 
   /** "of no LAW and each LAW" */
@@ -490,6 +516,20 @@ public final class EdgesOfLawsTest {
     C.due("the other way nobody would", x.shift(1, 0), NONE);
     x.seller(0, 10, 0, 2, 0);
     C.due("not at rest", x.shift(0, 1), NONE);
+    x = in("corner a people 98;corner b;ask 1 1;home 1;");
+    x.seller(0, 1, 0, 0, 0);
+    C.due("half of ninety-eight and one", x.shift(0, 1), 50);
+    x = in("corner a people 8;corner b people 5;corner c;home 10;");
+    x.seller(1, 10, 0, 0, 0);
+    x.seller(0, 10, 0, 1, 0);
+    C.due("the first stays where it is while the second thinks", x.shift(0, 2), 5);
+    x = in("corner a people 9;corner b people 9;corner c people 9;corner d people 9;home 10;");
+    for (int i = 0; i < 4; i++) {
+      x.seller(i, 10, 0, i, 0);
+    }
+    C.due("four, each alone: at rest", x.rest(), NONE);
+    C.due("a half of more than the rest of its own", x.shift(0, 3), 4);
+    C.due("the last one's", x.shift(3, 0), 4);
   }
 
   /** "(1 to those at a)", "none" */
@@ -564,6 +604,10 @@ public final class EdgesOfLawsTest {
     x.seller(0, 10, 0, 1, 0);
     C.due("the last isn't at rest", x.rest(), 1);
     C.due("so none", x.shift(1, 0), NONE);
+    x = in("corner a people 9;corner b people 5;corner c;home 10;");
+    x.seller(2, 10, 0, 0, 2);
+    x.seller(0, 10, 0, 1, 0);
+    C.due("who stays is at rest, wherever others would sell more", x.shift(0, 1), 3);
   }
 
   /** "NONE: none, none such" */
@@ -694,6 +738,55 @@ public final class EdgesOfLawsTest {
     C.due("towns taken alone", x.count(0), 2);
   }
 
+  /** As much of a TOWN as may be told: 12 corners, 16 streets, the last of which alone goes to the last corner. */
+  private static void fullTown() {
+    TwoBakers x = in(fullText());
+    C.due("spots", x.count(6), 12 + 16 * 11);
+    C.due("people", x.count(7), 24 * 5 * (7 + 16 * 12));
+    C.due("at home", x.home(), 24 * 5 * (7 + 16 * 12));
+    x.seller(0, 15, 2, 0, 0);
+    x.seller(11, 15, 0, 1, 2);
+    C.due("beside the last corner's baker", x.best(0, 0), 11);
+    forceLaw(x, "apart 1;");
+    C.due("the very last spot", x.best(0, 0), 411);
+    C.due("what it earns there", x.best(0, 1), 15 * 24 * 5 * 7);
+    C.due("the first would", x.rest(), 0);
+    C.due("turn", x.turn(0), true);
+    C.due("it's there", x.of(0, 0), 411);
+    C.due("people of the last corner", x.sold(0), 24 * 5 * 7);
+    x.seller(410, 15, 0, 2, 2);
+    x.seller(409, 15, 1, 3, 2);
+    C.due("four at rest", x.rest(), NONE);
+    C.due("at rest in a chase", x.chase(60, 0), 0);
+    C.due("the last one's spot", x.chase(60, 13), 409);
+    C.due("who buys at the last corner", x.buys(11), 1);
+    C.due("nobody buys elsewhere", x.home(), 24 * 5 * 16 * 12);
+    C.due("shift from where nobody is", x.shift(0, 11), NONE);
+    C.due("shift to where nobody likes it", x.shift(11, 10), NONE);
+    C.due("walk of the last", x.walk(11, NONE) > 0, true);
+    C.due("shut the last one", Check.law(x, "shut k l;"), 1);
+    x.force(1);
+    C.due("no spot on it", x.count(6), 12 + 15 * 11);
+    C.due("its people are out", x.count(7), 24 * 5 * (7 + 15 * 12));
+    C.due("nobody comes to the last corner", x.walk(0, NONE), NONE);
+    C.due("sold to nobody", x.sold(3), 0);
+    C.due("the way back to the last corner", x.best(0, 0), 11);
+  }
+
+  /** Streets of 12 steps: a ring of eleven corners, four across, and one from the eleventh to the twelfth. */
+  private static String fullText() {
+    StringBuilder text = new StringBuilder();
+    for (int k = 0; k < 11; k++) {
+      text.append("corner ").append((char) ('a' + k)).append(";");
+    }
+    text.append("corner l people 7 like rye 20;");
+    for (int s = 0; s < 15; s++) {
+      int from = s % 11;
+      text.append("street ").append((char) ('a' + from)).append(' ').append((char) ('a' + (from + (s < 11 ? 1 : 4)) % 11)).append(" 12 people 1;");
+    }
+    return text.append("street k l 12 people 1;step 5;home 0;ask 15 15;").toString();
+  }
+
   /** "NONE for others." */
   private static void countNoneSuch() {
     TwoBakers x = in(PAIR);
@@ -718,6 +811,10 @@ public final class EdgesOfLawsTest {
     C.due("turned: rounds", x.chase(5, 1), 1);
     x.put(0, 1, 9);
     C.due("put: price", x.chase(5, 20), 9);
+    C.due("put: spot", x.chase(4, 10), 1);
+    x.put(0, 1, 10);
+    x.turn(0);
+    C.due("put and turned: spot", x.chase(4, 10), 0);
     x.put(0, 1, 10);
     Check.law(x, "apart 1;price 9;");
     C.due("told: bestLaw", x.bestLaw(0, 1, 0), 0);

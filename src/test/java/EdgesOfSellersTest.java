@@ -39,8 +39,10 @@ public final class EdgesOfSellersTest {
     chaseInARing();
     chaseInARingOfThree();
     chaseDownToTheLeast();
+    chaseInNoRing();
     chaseSpent();
     chaseOfRounds();
+    chaseOfSixty();
     chaseLeavesAllAsBefore();
     chaseOfPrices();
     farByTheLaw();
@@ -314,6 +316,11 @@ public final class EdgesOfSellersTest {
     x.seller(121, 10, 0, 1, 2);
     C.due("over a corner", x.sold(0), 48 * 2 + 48 * 3 / 2);
     C.due("from over the corner", x.sold(1), 48 / 2 + 96 * 4);
+    x = in("corner a;corner b;corner c;corner d;street a b 4 people 1;street c d 4 people 2;");
+    x.seller(102, 10, 0, 0, 2);
+    x.seller(122, 10, 0, 1, 2);
+    C.due("the same place of another street is elsewhere", x.sold(0), 96);
+    C.due("and sells for itself", x.sold(1), 192);
   }
 
   /** "EARNS: SOLD times PRICE; a CHAIN's: of all its SELLERS." */
@@ -370,6 +377,19 @@ public final class EdgesOfSellersTest {
     C.due("the corner is two off", x.best(2, 0), 0);
     forceLaw(x, "apart 3;");
     C.due("three behind", x.best(2, 0), 105);
+    x = in("corner a;corner b people 5 like rye 20;street a b 12;home 0;ask 15 15;");
+    x.seller(1, 15, 0, 0, 2);
+    x.seller(0, 15, 2, 1, 0);
+    forceLaw(x, "apart 5;");
+    C.due("from the second corner", x.best(1, 0), 107);
+    forceLaw(x, "apart 6;");
+    C.due("too far from the second corner to sell", x.best(1, 2), 0);
+    x = in("corner a people 5 like rye 20;corner b;corner c;corner d;street a b 12;street c d 12;home 0;ask 15 15;");
+    x.seller(0, 15, 0, 0, 2);
+    x.seller(125, 15, 0, 1, 2);
+    x.seller(1, 15, 2, 2, 0);
+    forceLaw(x, "apart 3;");
+    C.due("not from the same place of another street", x.best(2, 0), 103);
   }
 
   /** "or none FAR" */
@@ -596,6 +616,25 @@ public final class EdgesOfSellersTest {
     C.due("behind one round, the second", x.chase(1, 21), 7);
   }
 
+  /** No RING, if anything is other than it was: by a place, by a PRICE, of any SELLER. */
+  private static void chaseInNoRing() {
+    TwoBakers x = in("corner a people 1;corner b people 2;ask 40 40;");
+    x.seller(0, 40, 0, 0, 0);
+    C.due("from a to b for 40", x.chase(60, 0), 0);
+    C.due("from a to b for 40: rounds", x.chase(60, 1), 2);
+    StringBuilder star = new StringBuilder("corner a people 1;");
+    for (char k = 'b'; k <= 'j'; k++) {
+      star.append("corner ").append(k).append(k == 'j' ? " people 1;" : ";");
+      star.append("street a ").append(k).append(k == 'j' ? " 2;" : " 12;");
+    }
+    x = in(star + "ask 10 11;home 11;");
+    x.seller(1, 11, 0, 0, 2);
+    x.seller(5, 10, 0, 1, 0);
+    C.due("from a corner to a far street's spot", x.chase(60, 0), 0);
+    C.due("from a corner to a far street's spot: rounds", x.chase(60, 1), 2);
+    C.due("the spot", x.chase(60, 11), 261);
+  }
+
   /** "or spent" */
   private static void chaseSpent() {
     TwoBakers x = in(CAT);
@@ -624,6 +663,42 @@ public final class EdgesOfSellersTest {
     C.due("most", x.chase(MOST, 0), NONE);
     C.due("one", x.chase(1, 1), 1);
     C.due("sixty", x.chase(60, 1), 3);
+  }
+
+  /** All sixty ROUNDS: prices go down and up again, and are never as they were. */
+  private static void chaseOfSixty() {
+    TwoBakers x = fourWhoChase();
+    java.util.Set<String> seen = new java.util.HashSet<>();
+    for (int round = 0; round <= 60; round++) {
+      String now = "";
+      for (int seller = 0; seller < 4; seller++) {
+        now += x.of(seller, 1) + " ";
+      }
+      C.due("is new behind " + round, seen.add(now), true);
+      for (int seller = 0; seller < 4 && round < 60; seller++) {
+        x.turn(seller);
+      }
+    }
+    TwoBakers other = fourWhoChase();
+    C.due("spent", other.chase(60, 0), 2);
+    C.due("sixty", other.chase(60, 1), 60);
+    C.due("no ring", other.chase(60, 2), 0);
+    for (int seller = 0; seller < 4; seller++) {
+      C.due("spot of " + seller, other.chase(60, 10 + seller), other.of(seller, 0));
+      C.due("price of " + seller, other.chase(60, 20 + seller), x.of(seller, 1));
+    }
+    C.due("fifty-nine", other.chase(59, 1), 59);
+  }
+
+  private static TwoBakers fourWhoChase() {
+    TwoBakers x = in("corner a people 39;corner b people 10;corner c people 30;corner d people 20;street a b 3;street b c 5;"
+        + "street c d 2;step 3;ask 14 34;home 35;");
+    int[] spots = {2, 3, 1, 0};
+    int[] prices = {28, 34, 19, 24};
+    for (int i = 0; i < 4; i++) {
+      x.seller(spots[i], prices[i], 0, i, 1);
+    }
+    return x;
   }
 
   /** "(All is as before then.)" */

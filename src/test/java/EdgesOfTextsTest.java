@@ -19,6 +19,7 @@ public final class EdgesOfTextsTest {
     breadsAreThree();
     namesHaveOneToSixLetters();
     namesAreNoWords();
+    wordsAreWhole();
     cornersAreNotToldYet();
     twelveCornersAtMost();
     streetsAreBetweenToldCorners();
@@ -212,6 +213,27 @@ public final class EdgesOfTextsTest {
           taken("corner " + word + "s;");
         }
       }
+    }
+  }
+
+  /** Words are told whole: one that is other by a letter, or one more or less, is none of them. */
+  private static void wordsAreWhole() {
+    for (String text : new String[] {"corner b;", "street a c 3;", "step 1;", "home 1;", "ask 1 1;"}) {
+      taken("corner a;corner c;" + text);
+      stops("corner a;corner c;", "z" + text.substring(1));
+      stops("corner a;corner c;", text.replaceFirst("[a-z] ", "z "));
+      stops("corner a;corner c;", text.replaceFirst("[a-z] ", " "));
+    }
+    stops("corner a ", "zeople 3;");
+    stops("corner a ", "zike rye 3;");
+    stops("corner a like ", "zhite 3;");
+    stops("corner a like ", "zrown 3;");
+    stops("corner a like ", "zye 3;");
+    for (String text : new String[] {"apart 1;", "shut a d;", "open a d 1;", "price 5;"}) {
+      lawTaken(text);
+      lawStops("", "z" + text.substring(1));
+      lawStops("", text.replaceFirst("[a-z] ", "z "));
+      lawStops("", text.replaceFirst("[a-z] ", " "));
     }
   }
 
@@ -713,6 +735,12 @@ public final class EdgesOfTextsTest {
     Check.feed(x, "corner a;corner bc");
     C.due("a name's first letter isn't a statement", x.town(17), NONE);
     C.due("empty behind a fault", x.count(5), 0);
+    Check.feed(x, "corners;");
+    C.due("a word ends with the text", x.town(6), NONE);
+    C.due("a word ends with the text: fault", x.fault(), 6);
+    Check.feed(x, "corner a people 999;");
+    C.due("a number ends with the text", x.town(18), NONE);
+    C.due("a number ends with the text: fault", x.fault(), 18);
     Check.feed(x, "corner a;corner b;  ");
     C.due("all that there are", x.town(20), 2);
     Check.feed(x, "corner a;");

@@ -28,9 +28,11 @@ public final class EdgesOfLawsTest {
     lossNone();
     shutsAndOpens();
     shutsThoseBetween();
+    shutsEachOfAll();
     opensWithoutPeopleAndSpots();
     lastApartAndPriceHold();
     shutStreetsSellAndWalkNothing();
+    shutStreetsAreNoWayOut();
     bestLawNoLawAhead();
     bestLawOfNine();
     bestLawOfRests();
@@ -321,6 +323,30 @@ public final class EdgesOfLawsTest {
     C.due("all others", x.far(1, 2), NONE);
   }
 
+  /** "In force (one or none) it changes the TOWN": each of sixteen streets is shut by its own LAW alone. */
+  private static void shutsEachOfAll() {
+    TwoBakers x = in(fullText());
+    int[] laws = new int[16];
+    for (int s = 0; s < 16; s++) {
+      int one = x.told(300 + 4 * s);
+      int other = x.told(301 + 4 * s);
+      if (s == 8) {
+        C.due("room for more laws", Check.town(x, fullText()), 12);
+      }
+      laws[s] = Check.law(x, "shut " + (char) ('a' + other) + " " + (char) ('a' + one) + ";");
+      C.due("law of " + s, laws[s], s % 8);
+      C.due("open is " + s, x.far(101 + 20 * s, 111 + 20 * s), 10);
+      x.force(laws[s]);
+      for (int street = 0; street < 16; street++) {
+        C.due("shut is " + s + ", " + street, x.far(101 + 20 * street, 101 + 20 * street), street == s ? NONE : 0);
+      }
+      C.due("its spots", x.count(6), 12 + 15 * 11);
+      x.force(NONE);
+      C.due("open again is " + s, x.far(101 + 20 * s, 111 + 20 * s), 10);
+      C.due("all spots behind " + s, x.count(6), 12 + 16 * 11);
+    }
+  }
+
   /** "new ones (without people (..))", "Streets that are opened have no SPOTS." */
   private static void opensWithoutPeopleAndSpots() {
     TwoBakers x = in("corner a people 1;corner b;corner c;street a b 3 people 1;");
@@ -375,6 +401,25 @@ public final class EdgesOfLawsTest {
     C.due("all are at home", x.home(), 24 * 6);
     x.force(NONE);
     C.due("without the law they do", x.home(), 0);
+  }
+
+  /** "no MOVES go there", though a CHAIN would have more of it, and "or where it is", though it's shut. */
+  private static void shutStreetsAreNoWayOut() {
+    TwoBakers x = in("corner a people 9;corner b;street a b 2;ask 5 9;");
+    x.seller(0, 9, 0, 0, 2);
+    x.seller(0, 5, 0, 0, 0);
+    forceLaw(x, "shut a b;open a b 1;");
+    C.due("no spot where it sells nothing", x.best(1, 0), 0);
+    C.due("it has all for 5", x.best(1, 1), 9 * 24 * 5);
+    C.due("all are at rest", x.rest(), NONE);
+    x.put(1, 101, 5);
+    C.due("it stays on a shut street", x.best(1, 0), 101);
+    C.due("the other has all for 9", x.best(1, 1), 9 * 24 * 9);
+    C.due("all are at rest so, too", x.rest(), NONE);
+    C.due("nobody turns", x.turn(1), false);
+    forceLaw(x, "shut a b;");
+    x.put(1, 0, 5);
+    C.due("to a corner without a way", x.best(1, 0), 1);
   }
 
   /** "of several the first, no LAW ahead of all" */
@@ -474,6 +519,14 @@ public final class EdgesOfLawsTest {
     C.due("no law: rests", x.bestLaw(0, 1, 2), 4);
     x.force(0);
     C.due("by the law", x.rests(0, 1, NONE, NONE), 2);
+    x = two("corner a people 1;corner b people 1;corner c;street a c 2;home 9;", 0, 0);
+    C.due("nobody buys: all are rests", x.rests(0, 1, NONE, NONE), 9);
+    C.due("at a both: somebody can't come", x.walk(0, 0), NONE);
+    C.due("at b both: somebody can't come", x.walk(1, 1), NONE);
+    long[] some = {9, 0, 9};
+    for (int what = 0; what < 3; what++) {
+      C.due("by some of them all can: " + what, x.bestLaw(0, 1, what), some[what]);
+    }
   }
 
   /** "none, if none has a REST" */

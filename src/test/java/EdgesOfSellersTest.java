@@ -321,6 +321,16 @@ public final class EdgesOfSellersTest {
     x.seller(122, 10, 0, 1, 2);
     C.due("the same place of another street is elsewhere", x.sold(0), 96);
     C.due("and sells for itself", x.sold(1), 192);
+    int[] due = {48 * 5, 12 * 19, 12 * 18, 12 * 17, 48 * 4 / 2, 0};
+    for (int more = 0; more < 6; more++) {
+      x = in("corner a;corner b;street a b 8 people 1;step 2;ask 0 20;");
+      x.seller(102, 4, 0, 0, 2);
+      x.seller(104, 4 + more, 0, 1, 2);
+      C.due("dearer on one street by " + more, x.sold(1), due[more]);
+      C.due("and the cheaper one has the rest", x.sold(0), 48 * 8 - x.sold(1));
+      x.put(0, 106, 4);
+      C.due("from the other side by " + more, x.sold(1), due[more]);
+    }
   }
 
   /** "EARNS: SOLD times PRICE; a CHAIN's: of all its SELLERS." */

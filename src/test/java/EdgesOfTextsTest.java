@@ -16,6 +16,7 @@ public final class EdgesOfTextsTest {
     cornerHasPeopleOnceAheadOfItsLikes();
     streetHasPeopleOnceAndNoLikes();
     stepHomeAskHaveTheirNumbersAndNoMore();
+    statementsEndNoSooner();
     breadsAreThree();
     namesHaveOneToSixLetters();
     namesAreNoWords();
@@ -43,6 +44,7 @@ public final class EdgesOfTextsTest {
     spotsThatThereAre();
     farOfTwo();
     lawsAreTexts();
+    lawsEndNoSooner();
     lawsNamesAreUnlikeCorners();
     lawsNumbersKeepTheirBounds();
     twelveRulesAtMost();
@@ -54,6 +56,7 @@ public final class EdgesOfTextsTest {
     feedsNineHundredAtMost();
     townOfTheFirstBytes();
     townWithAFaultIsAsItWas();
+    faultsChangeNoAnswer();
     townOfNoSuchLength();
     lawIsLikewise();
     nineLawsAtMost();
@@ -178,6 +181,31 @@ public final class EdgesOfTextsTest {
     stops("corner a;ask 1 ", ";");
     stops("corner a;ask 1 1 ", "1;");
     stops("corner a;step ", "a;");
+  }
+
+  /** What isn't in brackets must be told: a ";" ahead of it is a FAULT. */
+  private static void statementsEndNoSooner() {
+    for (String statement : new String[] {"corner c people 5 like white 1 like brown 2 like rye 3", "street a b 4 people 2", "step 2", "home 7", "ask 3 9"}) {
+      String[] tokens = statement.split(" ");
+      String head = TWO;
+      for (int i = 0; i < tokens.length; i++) {
+        if (mayEndBehind(tokens[0], i)) {
+          taken(head + ";");
+        } else {
+          stops(head, ";");
+        }
+        head += tokens[i] + " ";
+      }
+      taken(head + ";");
+    }
+  }
+
+  /** Whether a statement or LAW that begins with the word is whole by its first so many tokens. */
+  private static boolean mayEndBehind(String word, int many) {
+    if (word.equals("corner")) {
+      return many == 2 || many == 4 || many == 7 || many == 10;
+    }
+    return word.equals("street") && many == 4;
   }
 
   /** "BREAD: white, brown, rye (0 to 2)." */
@@ -504,6 +532,7 @@ public final class EdgesOfTextsTest {
     for (int spot = -30; spot < 500; spot++) {
       int place = Math.floorMod(spot, 20);
       boolean is = spot < 100 ? spot >= 0 && spot < 12 : spot < 100 + 20 * 16 && place > 0 && place < 12;
+      x = spot == 200 ? taken(streets(16)) : x;
       C.due("a spot: " + spot, x.far(spot, spot), is ? 0 : NONE);
     }
     C.due("a spot: least", x.far(Integer.MIN_VALUE, Integer.MIN_VALUE), NONE);
@@ -555,6 +584,18 @@ public final class EdgesOfTextsTest {
     }
     for (String word : LAW_WORDS) {
       stops("corner a;", word + " 10;");
+    }
+  }
+
+  /** A ";" ahead of what must be told is a FAULT in a LAW, too. */
+  private static void lawsEndNoSooner() {
+    for (String law : new String[] {"apart 1", "shut a d", "open a d 3", "price 5"}) {
+      String head = "";
+      for (String token : law.split(" ")) {
+        lawStops(head, ";");
+        head += token + " ";
+      }
+      lawTaken(head + ";");
     }
   }
 
@@ -775,6 +816,102 @@ public final class EdgesOfTextsTest {
     C.due("images", x.count(4), 1);
     C.due("sold", x.sold(0), sold);
     C.due("price", x.of(0, 1), 8);
+  }
+
+  /** "(the TOWN is as it was)": all calls answer behind a FAULT as without it, by more corners or fewer than there are. */
+  private static void faultsChangeNoAnswer() {
+    String more = "corner zebra people 9 like rye 7;corner y people 8;corner x;corner w people 2;street zebra y 12 people 3;street x y 1;step 5;home 1;ask 1 30;!";
+    String[] texts = {more, "corner z;step 4;", "step 3;", "", "street a b 1;"};
+    for (String text : texts) {
+      TwoBakers x = inUse();
+      TwoBakers untouched = inUse();
+      C.due("isn't taken: " + text, Check.town(x, text.endsWith("!") ? text : text + "!"), NONE);
+      sameAnswers("behind the fault of " + text, x, untouched);
+      C.due("law behind it", Check.law(x, "shut b a;open c a 2;price 9;"), 1);
+      Check.law(untouched, "shut b a;open c a 2;price 9;");
+      C.due("in force", x.force(1), true);
+      untouched.force(1);
+      sameAnswers("by a law behind the fault of " + text, x, untouched);
+    }
+    for (String text : new String[] {"price 9;shut a b;shut b c;open a c 1;apart 99;!", "open a c 1", "apart 99;apart"}) {
+      TwoBakers x = inUse();
+      C.due("isn't a law: " + text, Check.law(x, text), NONE);
+      sameAnswers("behind the law's fault of " + text, x, inUse());
+    }
+    TwoBakers x = taken("corner a people 9;corner b people 5;street a b 1;");
+    x.seller(0, 10, 0, 0, 0);
+    x.seller(0, 10, 0, 1, 0);
+    C.due("isn't taken", Check.town(x, "!"), NONE);
+    C.due("shift of those as told", x.shift(0, 1), 3);
+  }
+
+  /** A TOWN with a LAW in force, two SELLERS and an IMAGE. */
+  private static TwoBakers inUse() {
+    TwoBakers x = taken("corner a people 3;corner b people 4 like rye 5;corner c people 2;street a b 6 people 7;street b c 3;step 2;home 50;ask 5 9;");
+    x.seller(101, 6, 2, 3, 1);
+    x.seller(2, 8, 0, 1, 0);
+    Check.law(x, "apart 2;");
+    x.force(0);
+    x.image();
+    return x;
+  }
+
+  private static void sameAnswers(String when, TwoBakers x, TwoBakers due) {
+    for (int i = 0; i < 5; i++) {
+      for (int k = 0; k < 20; k++) {
+        C.due(when + ": " + i + ", " + k, answer(x, i, k), answer(due, i, k));
+      }
+    }
+    C.due(when + ": put", x.put(1, 121, 5), due.put(1, 121, 5));
+    C.due(when + ": put for 4", x.put(1, 121, 4), due.put(1, 121, 4));
+    C.due(when + ": put on no spot", x.put(1, 3, 9), due.put(1, 3, 9));
+    C.due(when + ": put for 10 on a spot", x.put(1, 121, 10), due.put(1, 121, 10));
+    C.due(when + ": turn", x.turn(0), due.turn(0));
+    C.due(when + ": turned", x.of(0, 1), due.of(0, 1));
+    C.due(when + ": back", x.back(0), due.back(0));
+  }
+
+  private static long answer(TwoBakers x, int i, int k) {
+    int[] spots = {NONE, 0, 1, 2, 3, 101, 105, 106, 121, 123};
+    switch (20 * i + k) {
+      case 0: return x.told(0) * 100 + x.told(1) * 10 + x.told(2);
+      case 1: return x.told(100) * 100 + x.told(102) * 10 + x.told(103);
+      case 2: return x.told(205) * 100 + x.told(208) * 10 + x.told(209);
+      case 3: return x.told(302) * 100 + x.told(303) * 10 + x.told(307);
+      case 4: return x.told(308) * 100 + x.told(3) * 10 + x.told(6);
+      case 5: return x.told(4) * 10 + x.told(5);
+      case 6: return x.name(0, 0) * 1000 + x.name(0, NONE) * 10 + x.name(0, 1);
+      case 7: return x.name(2, 0) * 1000 + x.name(2, NONE) * 10 + x.name(3, NONE);
+      case 8: return x.sold(0) * 10000 + x.sold(1);
+      case 9: return x.earns(3) * 10000 + x.earns(1);
+      case 10: return x.home() * 10000 + 100 * x.buys(0) + 10 * x.buys(2) + x.buys(3);
+      case 11: return 100000 * x.best(0, 0) + x.best(0, 1);
+      case 12: return 100000 * x.best(1, 0) + x.best(1, 1);
+      case 13: return x.rest();
+      case 14: return 1000 * x.rests(0, 1, NONE, NONE) + x.rests(0, 1, NONE, 0);
+      case 15: return 1000 * x.rests(1, 0, NONE, NONE) + x.rests(1, 0, NONE, 1);
+      case 16: return 1000 * x.lots(0, 1, 0, 2, 0) + x.lots(1, 0, 2, 1, 1);
+      case 17: return 100000 * x.lead(0, 1, 0) + x.lead(0, 1, 2);
+      case 18: return 100000 * x.lead(1, 0, 1) + x.lead(1, 0, 4);
+      case 19: return 10000 * x.prices(0, 1, NONE) + x.prices(0, 1, 0);
+      case 20: return 100 * x.stage(0, 1, 0, 2, 0) + x.stage(0, 1, 0, 2, 1);
+      case 21: return 100 * x.stage(1, 0, 2, 1, 0) + x.stage(1, 0, 2, 1, 2);
+      case 22: return 100000 * x.own(1, 0) + x.own(1, 1);
+      case 23: return 100000 * x.own(2, 0) + 10 * x.own(2, 1) + x.own(2, 2);
+      case 24: return x.loss();
+      case 25: return 100000 * x.bestLaw(0, 1, 0) + 10 * x.bestLaw(0, 1, 1) + x.bestLaw(0, 1, 2);
+      case 26: return 1000 * x.shift(0, 2) + 100 * x.shift(2, 0) + x.shift(1, 2) + x.shift(3, 0) + x.shift(0, 3);
+      case 27: return x.chase(60, 0) * 10000 + x.chase(60, 1) * 100 + x.chase(60, 20);
+      case 28: return x.chase(2, 11) * 100 + x.chase(2, 20);
+      case 29: return x.of(0, 1) * 1000 + x.of(1, 0);
+      case 30: return x.count(6) * 100000 + x.count(7);
+      case 31: return x.count(0) * 10000 + x.count(1) * 1000 + x.count(2) * 100 + x.count(3) * 10 + x.count(4);
+      case 32: return x.force(NONE) ? x.far(0, 2) : -2;
+      case 33: return x.force(0) ? x.far(101, 2) : -2;
+      default:
+        int at = 20 * i + k - 40;
+        return at < 0 || at >= 60 ? 0 : 100000L * x.far(spots[at / 6], spots[at % 6 + 3]) + x.walk(spots[at / 6], spots[at % 6]);
+    }
   }
 
   /** "-2, doing nothing: n is below 0 or more than there are." */
